@@ -578,6 +578,10 @@ public final class MissedPoints {
             cells = new int[Math.max(size, 0)];
         }
 
+        boolean isBlank() {
+            return cells.length == 0;
+        }
+
         int recall(int i) {
             if (i < 0 || i >= cells.length || cells[i] >>> 16 != age) {
                 return NONE;
@@ -766,8 +770,8 @@ public final class MissedPoints {
     private static final class Pairs {
         private final Net net;
         private final Memo mosts = new Memo(SETS);
-        // Only some calls need the numbers of PAIRINGS, so the long row comes with the first.
-        private Memo numbers;
+        // Only some calls need the numbers of PAIRINGS, so the long row comes with the first of them.
+        private Memo numbers = new Memo(0);
         private int changesSeen;
 
         Pairs(Net net) {
@@ -778,9 +782,7 @@ public final class MissedPoints {
             if (changesSeen != net.changes) {
                 changesSeen = net.changes;
                 mosts.forget();
-                if (numbers != null) {
-                    numbers.forget();
-                }
+                numbers.forget();
             }
         }
 
@@ -824,7 +826,7 @@ public final class MissedPoints {
         /** How many PAIRINGS of so many LINES a PART has (62370 at most, which a Memo can hold). */
         int number(int set, int lines) {
             notice();
-            if (numbers == null) {
+            if (numbers.isBlank()) {
                 numbers = new Memo(MOST_LINES_PAIRED * SETS);
             }
             return numberOf(set, lines, 0);
@@ -1326,7 +1328,7 @@ public final class MissedPoints {
         }
     }
 
-    /** Reads THE TAPE as a TEXT; what it tells stays apart from the net till no FAULT is sure. */
+    /** Reads THE TAPE as a TEXT; what it tells stays apart from the net, for a FAULT may still come. */
     private static final class Reader {
         private static final int END = -1, NUMBER = -2, UNKNOWN = -3;
         private static final int BLANK = 32;

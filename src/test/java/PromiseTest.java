@@ -41,6 +41,9 @@ public final class PromiseTest {
         sheets();
         copies();
         image();
+        fullNets();
+        longWays();
+        fullTape();
         System.out.println("PromiseTest: " + asked + " answers, " + wrong + " wrong");
         if (wrong != 0) System.exit(1);
     }
@@ -746,5 +749,84 @@ public final class PromiseTest {
         due("deal", x.deal(0, 0), 0);
         due("back", x.back(), 5);
         due("count", x.count(0), 5);
+    }
+
+    /** Twelve POINTS, where every bound inside is reached. */
+    private static void fullNets() {
+        MissedPoints bare = net(12, "");
+        due("bare pieces", bare.count(4), 12);
+        due("bare lack", bare.count(3), 12);
+        due("bare odd", bare.odd(0), 12);
+        due("bare blocks", bare.pieces(0), 12);
+        due("last block", bare.piece(0, 11, 0), 2048);
+        due("no more blocks", bare.piece(0, 12, 0), NONE);
+        due("mends", bare.mends(1), 66);
+        due("last block shelved", bare.shelf(3, 1, 11), 1);
+        due("last block taken", bare.taken(3, 4), 2048);
+        MissedPoints star = net(12, "");
+        for (int p = 1; p < 12; p++) due("star", star.line(0, p, 1), 0);
+        due("star blocks", star.pieces(0), 11);
+        due("star surplus", star.surplus(1), 10);
+        due("star barriers", star.barriers(0), 1);
+        MissedPoints row = net(12, "0-1-2-3-4-5-6-7-8-9-10-11");
+        due("row pieces", row.count(4), 1);
+        due("row lack", row.count(3), 0);
+        due("last mate", row.mate(11), 10);
+        due("breaks", row.breaks(1), 6);
+        due("row whole", row.odd(0), 0);
+        due("row painted", row.paint(0, 0), 12);
+        due("row told", row.isTold(0), 1);
+        MissedPoints mesh = net(11, "[0 1 2 3 4 5 6 7 8 9 10]");
+        due("most ears", mesh.ear(2047, -1), 5);
+        for (int i = 0; i < 5; i++) due("ear " + i, mesh.ear(2047, i), 6 << 2 * i);
+        due("no more ears", mesh.ear(2047, 5), NONE);
+        due("greatest pairings", mesh.ways(5), 10395);
+        due("alone", mesh.alone(10, 1), 11);
+        due("barriers", mesh.barriers(0), 1);
+        due("one point more", mesh.points(1), 12);
+        due("barriers are counted anew", mesh.barriers(0), 1);
+        MissedPoints few = net(2, "0-1");
+        due("barriers", few.barriers(0), 3);
+        due("one point more", few.points(1), 3);
+        due("barriers are counted anew", few.barriers(1), 1);
+        due("barriers are counted anew", few.odd(0), 1);
+        due("two points more", few.points(2), 5);
+        due("marks are told anew", few.marked(0), 4 | 8 | 16);
+    }
+
+    private static void longWays() {
+        MissedPoints x = net(12, "0-1-2-3-4-5-6-7-8-9-10-11");
+        tell(x, 0, 1, -1, 2, 1, 4, 3, 6, 5, 8, 7, 10, 9, -1);
+        due("longest way", x.way(0, -1), 12);
+        for (int i = 0; i < 12; i++) due("longest way " + i, x.way(0, i), i);
+        due("no more", x.way(0, 12), NONE);
+        due("grow", x.grow(0), 6);
+        for (int p = 0; p < 12; p++) due("grown " + p, x.item(0, p), p ^ 1);
+        // 0 1 2 3 4 2 1 11 would be shorter, but has POINTS twice.
+        MissedPoints y = net(12, "0-1,1-2,2-3,3-4,4-2,1-11,0-5,5-6,6-7,7-8,8-9,9-10,10-2");
+        tell(y, 0, 0, -1, 2, 1, 4, 3, 6, 5, 8, 7, 10, 9, -1);
+        int[] way = {0, 5, 6, 7, 8, 9, 10, 2, 1, 11};
+        due("unlike points", y.way(0, -1), 10);
+        for (int i = 0; i < 10; i++) due("unlike points " + i, y.way(0, i), way[i]);
+        due("grow", y.grow(0), 6);
+        due("told", y.isTold(0), 1);
+        due("chains", y.paint(1, 0), 12);
+        due("chains", y.chains(0, 1, 0), 0);
+    }
+
+    private static void fullTape() {
+        MissedPoints x = net(2, "");
+        for (int i = 1; i <= 30; i++) due("blanks", x.feed(0x20202020, 4), 4 * i);
+        due("blanks", x.text(), -220);
+        for (int i = 1; i <= 30; i++) due("zeros", x.feed(0x30303030, 4), 4 * i);
+        due("zeros", x.text(), 0);
+        for (int i = 1; i <= 30; i++) due("rows", x.feed(0x302C302C, 4), 4 * i);
+        due("rows", x.text(), -220);
+        for (int i = 1; i <= 30; i++) due("there and back", x.feed(0x302D312D, 4), 4 * i);
+        due("there and back", x.text(), -220);
+        due("nothing came of it", x.count(1), 0);
+        for (int i = 1; i <= 29; i++) due("there and back", x.feed(0x302D312D, 4), 4 * i);
+        due("there and back", x.feed(0x302D31, 3), 119);
+        due("there and back", x.text(), 1);
     }
 }

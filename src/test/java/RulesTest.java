@@ -108,8 +108,8 @@ public final class RulesTest {
         Matcher made = Pattern.compile("(?m)^.*\\bnew\\b.*$").matcher(code);
         while (made.find()) {
             String line = made.group().trim();
-            boolean known = line.startsWith("private final") || line.equals("sheets[s] = new Sheet();")
-                || line.startsWith("cells = new int[") || line.startsWith("numbers = new Memo(");
+            boolean known = line.startsWith("private final") || line.equals("private Memo numbers = new Memo(0);")
+                || line.equals("sheets[s] = new Sheet();") || line.startsWith("cells = new int[") || line.startsWith("numbers = new Memo(");
             check(known, "made in a call: " + line);
         }
         methodLengths(code);
