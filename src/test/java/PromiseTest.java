@@ -1,20 +1,5 @@
 /** Each promise by hand: ordinary inputs, the edges that the document names, wrong inputs. */
-public final class PromiseTest {
-    private static final int NONE = -1, BAD = -2, STATE = -3, FULL = -4;
-    private static final int NOTHING = -11, OUTSIDE = -12, OTHER = -13, BELOW = -14;
-    private static final int LEAST = Integer.MIN_VALUE, MOST = Integer.MAX_VALUE;
-
-    private static int asked = 0;
-    private static int wrong = 0;
-
-    private static void due(String what, int got, int want) {
-        asked++;
-        if (got != want) {
-            wrong++;
-            System.out.println(what + " answered " + got + ", due is " + want);
-        }
-    }
-
+public final class PromiseTest extends Bench {
     public static void main(String[] args) {
         newObject();
         points();
@@ -44,30 +29,7 @@ public final class PromiseTest {
         fullNets();
         longWays();
         fullTape();
-        System.out.println("PromiseTest: " + asked + " answers, " + wrong + " wrong");
-        if (wrong != 0) System.exit(1);
-    }
-
-    /** An object with n POINTS and the LINES of a text. */
-    private static MissedPoints net(int n, String text) {
-        MissedPoints x = new MissedPoints();
-        due("points", x.points(n), n);
-        if (!text.isEmpty()) {
-            due("text " + text, read(x, text) < 0 ? 1 : 0, 0);
-        }
-        return x;
-    }
-
-    private static int read(MissedPoints x, String text) {
-        for (int i = 0; i < text.length(); i++) {
-            due("feed", x.feed(text.charAt(i), 1), i + 1);
-        }
-        return x.text();
-    }
-
-    private static void tell(MissedPoints x, int s, int sort, int... mates) {
-        due("sheet", x.sheet(s, sort, mates.length), 1);
-        for (int p = 0; p < mates.length; p++) due("write", x.write(s, p, mates[p]), 1);
+        end("PromiseTest");
     }
 
     private static void newObject() {
