@@ -3,7 +3,7 @@ import java.util.List;
 import java.util.function.Supplier;
 import java.util.function.ToIntFunction;
 
-/** The terms: a refused call changes nothing; what is asked changes nothing, whatever it answers. */
+/** The terms: refused calls and questions change nothing, whatever they answer; each object is its own. */
 public final class ChangesNothingTest extends Bench {
     private static final List<String> ASKS = List.of("next", "count", "most", "mate", "ways", "alone", "mark", "marked",
         "pieces", "piece", "surplus", "odd", "barrier", "barriers", "critical", "ear", "verdict", "verdicts", "without",
@@ -21,6 +21,8 @@ public final class ChangesNothingTest extends Bench {
         refusedWhereNew();
         faults();
         for (String name : ASKS) asked(name);
+        others();
+        runsSideBySide();
         end("ChangesNothingTest");
     }
 
@@ -237,6 +239,56 @@ public final class ChangesNothingTest extends Bench {
                 ready(name + " asked twice answers the same", (int) ask.invoke(x, args), (int) first);
             }
             same(name, x, scene.get());
+        }
+    }
+
+    /** Each call that changes an object, on another one: this one is left alone. */
+    private static void others() {
+        promise(1);
+        MissedPoints x = rich();
+        MissedPoints other = rich();
+        ready("text", other.text(), 4);
+        ready("image", other.image(), 7);
+        ready("grow", other.grow(0), 3);
+        ready("paint", other.paint(2, 1), 7);
+        ready("write", other.write(1, 0, 77), 1);
+        ready("copy", other.copy(1, 0, 2, 1, 3), 3);
+        ready("sheet", other.sheet(3, 0, 40), 1);
+        ready("sheet", other.sheet(0, -1, 0), 1);
+        ready("shelf", other.shelf(0, 5, 0), 1);
+        ready("shelf", other.shelf(3, 3, 127), 1);
+        ready("points", other.points(5), 12);
+        ready("line", other.line(10, 11, 1), 0);
+        ready("feed", other.feed(0x30303030, 4), 4);
+        ready("seed", other.seed(4), -5);
+        ready("deal", other.deal(12, 10), 66);
+        ready("times", other.times(20, 12, 10, 0), 20);
+        same("the use of another object", x, rich());
+        due("a new one has nothing of either", new MissedPoints().count(0), 0);
+    }
+
+    /** The same calls by turns on two objects with other nets: each answers as it would alone. */
+    private static void runsSideBySide() {
+        promise(1);
+        MissedPoints x = new MissedPoints();
+        MissedPoints y = new MissedPoints();
+        for (int round = 0; round < 20; round++) {
+            x.seed(round);
+            x.deal(8, 2);
+            y.deal(9, 3);
+            MissedPoints alone = new MissedPoints();
+            ready("seed", alone.seed(round), 1);
+            alone.deal(8, 2);
+            for (int what = 0; what < 5; what++) {
+                y.count(what);
+                due("count beside another object", x.count(what), alone.count(what));
+            }
+            for (int what = 0; what < 3; what++) {
+                y.barriers(what);
+                due("barriers beside another object", x.barriers(what), alone.barriers(what));
+            }
+            y.ways(3);
+            due("ways beside another object", x.ways(3), alone.ways(3));
         }
     }
 }

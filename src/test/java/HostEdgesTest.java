@@ -24,6 +24,7 @@ public final class HostEdgesTest extends Bench {
         textFaults();
         textFaultsOfBytes();
         textThatIsFull();
+        textOfTheNetThen();
         seed();
         deal();
         dealAtItsBounds();
@@ -32,6 +33,7 @@ public final class HostEdgesTest extends Bench {
         shelfOfRows();
         taken();
         held();
+        heldAsTheyWere();
         sheet();
         write();
         item();
@@ -39,6 +41,7 @@ public final class HostEdgesTest extends Bench {
         copyOutside();
         image();
         back();
+        backToTheSameDraws();
         needAll(25, 45);
         end("HostEdgesTest");
     }
@@ -464,6 +467,33 @@ public final class HostEdgesTest extends Bench {
         due("room again", x.feed(0, 4), 4);
     }
 
+    /** POINTS and LINES count that are there when it is read, not when its bytes came. */
+    private static void textOfTheNetThen() {
+        promise(33);
+        MissedPoints x = net(2, "");
+        feed(x, "0-4-1");
+        ready("points", x.points(3), 5);
+        due("POINTS that came later", x.text(), 2);
+        feed(x, "3-4");
+        ready("deal", x.deal(4, 0), 0);
+        due("a POINT that is gone", x.text(), -102);
+        feed(x, "0-1,1-2");
+        ready("line", x.line(1, 2, 1), 0);
+        due("a LINE that came later isn't new", x.text(), 1);
+        feed(x, "0-1");
+        ready("line", x.line(0, 1, 0), 1);
+        due("a LINE that went is new", x.text(), 1);
+        feed(x, "0-");
+        ready("FAULT", x.text(), -102);
+        due("what was told before a FAULT isn't told later", read(x, "3"), 0);
+        due("LINES of an earlier TEXT don't come again", x.line(0, 1, 0), 1);
+        due("LINES of an earlier TEXT don't come again", read(x, "2-3"), 1);
+        due("LINES of an earlier TEXT don't come again", x.next(0), 0);
+        feed(x, "0-1-2");
+        feed(x, "-3-0");
+        due("bytes that came at several times are one TEXT", x.text(), 2);
+    }
+
     private static void seed() {
         promise(34);
         MissedPoints x = new MissedPoints();
@@ -711,6 +741,21 @@ public final class HostEdgesTest extends Bench {
         }
     }
 
+    private static void heldAsTheyWere() {
+        promise(39);
+        MissedPoints x = net(4, "0-1,0-2,0-3");
+        ready("a KEY", x.shelf(1, 0, 0), 1);
+        ready("a KNOT", x.shelf(2, 1, 2), 1);
+        ready("an AREA", x.shelf(3, 3, 6), 1);
+        ready("the net goes", x.deal(0, 0), 0);
+        row("POINTS as they were", what -> x.held(0, what), 3, 1 | 8 | 6, 3);
+        row("KINDS as they were", what -> x.held(3, what), 1, 1, 1);
+        ready("image", x.image(), 0);
+        ready("points", x.points(2), 2);
+        ready("back", x.back(), 0);
+        row("THE IMAGE has no SHELVES", what -> x.held(4, what), 1, 8, 2);
+    }
+
     private static void sheet() {
         promise(40);
         MissedPoints x = new MissedPoints();
@@ -917,5 +962,29 @@ public final class HostEdgesTest extends Bench {
         ready("another LINE comes", x.line(0, 2, 1), 0);
         ready("back", x.back(), 3);
         due("LACK of THE IMAGE's net", x.count(3), 1);
+    }
+
+    private static void backToTheSameDraws() {
+        promise(45);
+        MissedPoints x = net(4, "0-1-2-3");
+        ready("seed", x.seed(4711), 1);
+        ready("paint", x.paint(0, 0), 4);
+        ready("image", x.image(), 4);
+        int lines = x.deal(9, 3);
+        int[] near = new int[9];
+        for (int p = 0; p < 9; p++) near[p] = x.next(p);
+        due("another net: it TELLS none", x.isTold(0), 0);
+        ready("back", x.back(), 4);
+        due("the net that it tells is there again", x.isTold(0), 1);
+        due("z as it was: the same DRAWS", x.deal(9, 3), lines);
+        row("z as it was: the same DRAWS", x::next, near);
+        int more = x.deal(9, 3);
+        ready("back", x.back(), 4);
+        ready("the first one", x.deal(9, 3), lines);
+        due("z goes on from there", x.deal(9, 3), more);
+        ready("image", x.image(), 9);
+        ready("the net goes", x.deal(0, 0), 0);
+        due("THE IMAGE of a dealt net", x.back(), 9);
+        due("its LINES", x.count(1), more);
     }
 }

@@ -63,7 +63,7 @@ public final class NetsTest {
             due("ways " + v, x().ways(v), m.ways(v));
             due("marked " + v, x().marked(v), m.marked(v));
             due("verdicts " + v, x().verdicts(v), m.verdicts(v));
-            due("barriers " + v, x().barriers(v), n > 8 && v > 0 ? x.barriers(v) : m.barriers(v));
+            due("barriers " + v, x().barriers(v), m.barriers(v));
             due("pieces " + v, x().pieces(v), m.pieces(v));
         }
         for (int p = -1; p <= n; p++) askPoint(p);

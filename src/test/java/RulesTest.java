@@ -11,7 +11,7 @@ import java.util.TreeSet;
 import java.util.regex.Matcher;
 import java.util.regex.Pattern;
 
-/** The face of the document, and those rules of LANGUAGE.md that can be seen without judgement. */
+/** The face and heads of the document, and those rules of LANGUAGE.md that can be seen without judgement. */
 public final class RulesTest {
     private static final String FACE = "points(1) line(3) next(1) count(1) most(1) mate(1) ways(1) alone(2) mark(1)"
         + " marked(1) pieces(1) piece(3) surplus(1) odd(1) barrier(1) barriers(1) critical(1) ear(2) verdict(2)"
@@ -21,6 +21,11 @@ public final class RulesTest {
     private static final List<String> BANNED = List.of("throw", "throws", "try", "catch", "synchronized", "assert",
         "import", "package", "->", "::", "Object", "Random", "System.out", "System.nano", "System.current", "Thread",
         "protected", "native", "hashCode", "toString", "Exact", "volatile", "transient");
+
+    // Rule 4 names these, or means them by "and their like"; the last one is the class's own.
+    private static final Set<String> LIBRARY = Set.of("Integer.bitCount", "Integer.lowestOneBit",
+        "Integer.numberOfLeadingZeros", "Integer.numberOfTrailingZeros", "Math.max", "Math.min", "System.arraycopy",
+        "Net.firstPiece");
 
     private static int wrong = 0;
 
@@ -34,7 +39,11 @@ public final class RulesTest {
     public static void main(String[] args) throws Exception {
         face();
         nested();
-        source(Files.readString(Path.of("src/main/java/MissedPoints.java")));
+        String program = Files.readString(Path.of("src/main/java/MissedPoints.java"));
+        String document = Files.readString(Path.of("../shared/DOC.md"));
+        documentFace(document, program);
+        documentHeads(document, program);
+        source(program);
         System.out.println("RulesTest: " + wrong + " rules broken");
         if (wrong != 0) System.exit(1);
     }
@@ -62,6 +71,41 @@ public final class RulesTest {
             constants.add(f.getName() + "=" + f.get(null));
         }
         check(constants.equals(Set.of("NONE=-1", "BAD=-2", "STATE=-3", "FULL=-4")), "the constants " + constants);
+    }
+
+    /** Each row of the face stands in the program as the document prints it, and in that order. */
+    private static void documentFace(String document, String program) {
+        Matcher call = Pattern.compile("(?m)^    public int (\\w+\\([^)]*\\));$").matcher(document);
+        Set<String> found = new TreeSet<>();
+        int last = -1;
+        while (call.find()) {
+            String row = call.group(1);
+            int numbers = row.endsWith("()") ? 0 : row.split(",").length;
+            found.add(row.substring(0, row.indexOf('(')) + "(" + numbers + ")");
+            int at = program.indexOf("\n    public int " + row + " {");
+            check(at > last, row + " stands where the document has it");
+            last = Math.max(at, last);
+        }
+        check(found.equals(new TreeSet<>(Arrays.asList(FACE.split(" ")))), "the face that the document prints: " + found);
+        check(program.contains("public static final int NONE = -1, BAD = -2, STATE = -3, FULL = -4;"), "its constants");
+    }
+
+    /** Ahead of the calls that the document names stands their head, ahead of the next ones another. */
+    private static void documentHeads(String document, String program) {
+        Matcher head = Pattern.compile("Ahead of the calls (.*) the interface says: (---- .*)\\.").matcher(document);
+        int heads = 0;
+        while (head.find()) {
+            heads++;
+            int from = program.indexOf("    // " + head.group(2) + "\n");
+            check(from >= 0, "head " + head.group(2));
+            int next = program.indexOf("    // ----", from + 1);
+            String part = program.substring(Math.max(from, 0), next < 0 ? program.length() : next);
+            StringBuilder calls = new StringBuilder();
+            Matcher call = Pattern.compile("(?m)^    public int (\\w+)\\(").matcher(part);
+            while (call.find()) calls.append(calls.length() == 0 ? "`" : ", `").append(call.group(1)).append('`');
+            check(calls.toString().equals(head.group(1)), head.group(2) + " stands ahead of " + calls);
+        }
+        check(heads == 10, "ten heads, found " + heads);
     }
 
     private static void nested() {
@@ -102,6 +146,8 @@ public final class RulesTest {
             boolean found = Pattern.compile(edge + Pattern.quote(word) + edge).matcher(code).find();
             check(!found, "'" + word + "' stands in the program");
         }
+        Matcher used = Pattern.compile("\\b[A-Z][a-z]\\w*\\.\\w+(?=\\()").matcher(code);
+        while (used.find()) check(LIBRARY.contains(used.group()), used.group() + " is none of the library");
         for (int i = 0; i < text.length(); i++) check(text.charAt(i) < 128, "sign " + i + " is plain");
         check(!code.contains("static {"), "no static block");
         // What a run makes is counted, so 'new' stands in fields, in constructors and for one late row only.
